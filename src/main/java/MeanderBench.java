@@ -176,7 +176,7 @@ public final class MeanderBench {
     }
 
     public int plot(int x, int y) {
-        if (plots.size >= MOST_PLOTS || !hasSide(x, y)) {
+        if (!hasSide(x, y)) {
             return NONE;
         }
         return plots.add(x, y, river.course.sideOf(x, y));
@@ -199,8 +199,7 @@ public final class MeanderBench {
     }
 
     public int mark(int x, int y, int year) {
-        boolean good = maps.size < MOST_MARKS
-                && isWithin(x, 0, PLAIN_END)
+        boolean good = isWithin(x, 0, PLAIN_END)
                 && isWithin(y, 0, PLAIN_END)
                 && isWithin(year, 0, LAST_MAP_YEAR);
         return good ? maps.add(x, y, year) : NONE;
@@ -536,7 +535,8 @@ public final class MeanderBench {
         }
 
         void cutNecks(int near) {
-            // A cut makes no neck that begins farther upstream or where it began: once down is enough.
+            // A cut only brings the points that are kept closer to one another along the line, so no new
+            // neck begins at i or farther upstream: one way down finds all of them in their order.
             for (int i = 0; i + LEAST_PIECES_OF_CUT < course.size; i++) {
                 int j = farthestNeck(i, near);
                 if (j != NONE) {
@@ -547,9 +547,10 @@ public final class MeanderBench {
         }
 
         private int farthestNeck(int i, int near) {
-            for (int j = course.size - 1; j >= i + LEAST_PIECES_OF_CUT; j--) {
-                int kept = course.size - (j - i - 1);
-                if (kept >= LEAST_POINTS && course.isNear(j, course.xs[i], course.ys[i], near)) {
+            // A cut from i to j keeps size - (j - i - 1) points, which may not be too few.
+            int last = Math.min(course.size - 1, course.size - LEAST_POINTS + i + 1);
+            for (int j = last; j >= i + LEAST_PIECES_OF_CUT; j--) {
+                if (course.isNear(j, course.xs[i], course.ys[i], near)) {
                     return j;
                 }
             }
@@ -637,6 +638,7 @@ public final class MeanderBench {
         private final int[] sidesBefore = new int[MOST_PLOTS];
         int size;
 
+        /** The number of the new plot; NONE if there is no room for it. */
         int add(int x, int y, int sideNow) {
             if (size >= MOST_PLOTS) {
                 return NONE;
@@ -682,6 +684,7 @@ public final class MeanderBench {
         int size;
         int tolerance = FIRST_TOLERANCE;
 
+        /** The number of the new mark; NONE if there is no room for it. */
         int add(int x, int y, int year) {
             if (size >= MOST_MARKS) {
                 return NONE;

@@ -51,9 +51,10 @@ final class Checks {
         }
     }
 
-    /** Feeds just these bytes (0 to 255 each) behind an empty tape. */
+    /** Feeds just these bytes (0 to 255 each) behind an empty tape; what end() takes away is all 255. */
     static void feedBytes(MeanderBench bench, int... bytes) {
-        int[] padded = java.util.Arrays.copyOf(bytes, (bytes.length + 19) / 20 * 20);
+        int[] padded = java.util.Arrays.copyOf(bytes, bytes.length / 20 * 20 + (bytes.length < 200 ? 20 : 0));
+        java.util.Arrays.fill(padded, bytes.length, padded.length, 255);
         int[] number = new int[5];
         for (int at = 0; at < padded.length; at += 20) {
             for (int k = 0; k < 5; k++) {
