@@ -8,7 +8,7 @@ public final class ForetoldTest {
     public static void main(String[] args) {
         noRates();
         firstYear();
-        // By the years of 41 to 44: 27, 56, 60, 53; and of 53 to 56: 61 (none), 61, 61, 60.
+        // These years were found by a search, not by hand: lines with a first cut in the last year that counts.
         leastAndGreatest(SHORT, 64, 41, new int[] {27, 56, 60, 53});
         leastAndGreatest(BOWL, 48, 53, new int[] {61, 61, 61, 60});
         onlyRatesThatAreMet();
