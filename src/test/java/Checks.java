@@ -4,12 +4,22 @@ import java.util.NoSuchElementException;
 final class Checks {
     private int wrong = 0;
     private int made = 0;
+    private String about = "";
+
+    /** What the checks that follow are about: put ahead of what they print. */
+    void about(String words) {
+        about = words.isEmpty() ? "" : words + ": ";
+    }
+
+    int made() {
+        return made;
+    }
 
     void same(String call, long got, long due) {
         made++;
         if (got != due) {
             wrong++;
-            System.out.println(call + " answered " + got + ", due is " + due);
+            System.out.println(about + call + " answered " + got + ", due is " + due);
         }
     }
 
@@ -27,7 +37,7 @@ final class Checks {
         made++;
         if (!thrown.equals(NoSuchElementException.class.getName())) {
             wrong++;
-            System.out.println(call + " threw " + thrown + ", due is NoSuchElementException");
+            System.out.println(about + call + " threw " + thrown + ", due is NoSuchElementException");
         }
     }
 
