@@ -141,6 +141,13 @@ final class EdgesOfAnswers {
         MeanderBench bench = new MeanderBench();
         checks.same(what + ": line()", Checks.tellLine(bench, xy), true);
         checks.same(what, bench.crossings(), due);
+        int[] back = new int[xy.length];
+        for (int k = 0; k < xy.length; k += 2) {
+            back[k] = xy[xy.length - 2 - k];
+            back[k + 1] = xy[xy.length - 1 - k];
+        }
+        Checks.tellLine(bench, back);
+        checks.same(what + ", from the other end", bench.crossings(), due);
     }
 
     private void fewestAndMostPairs() {
@@ -171,6 +178,11 @@ final class EdgesOfAnswers {
         crossings("one above it", 0, 0, 0, 100, 0, 100, 50, 50, 1);
         crossings("one beside its end", 0, 0, 0, 50, 0, 60, 50, 51, 0);
         crossings("between whole numbers", 1, 0, 0, 5, 3, 4, 0, 1, 4);
+        // The later piece begins short of the earlier one, on each side of it, and reaches it at 55 or 95.
+        crossings("reached from the left and below", 1, 50, 10, 100, 10, 20, 0, 90, 20);
+        crossings("reached from the left and above", 1, 50, 10, 100, 10, 20, 20, 90, 0);
+        crossings("reached from the right and below", 1, 50, 10, 100, 10, 130, 0, 60, 20);
+        crossings("reached from the right and above", 1, 50, 10, 100, 10, 130, 20, 60, 0);
         crossings("more than one place", 1, 0, 0, 100, 0, 50, 0, 150, 0);
         crossings("one place, in one row", 1, 0, 0, 50, 0, 100, 0, 50, 0);
         crossings("one short of it, in one row", 0, 0, 0, 50, 0, 100, 0, 51, 0);

@@ -3,7 +3,8 @@ final class EdgesOfCuts {
     private static final String TERMS = "Terms";
     /** Places of a box no wider than LONG, none of them near another one. */
     private static final int[] BOX = {
-        100, 100, 150, 110, 120, 150, 160, 160, 105, 130, 140, 125, 130, 105, 155, 135, 110, 155, 125, 135, 145, 150, 115, 115,
+        100, 100, 150, 110, 120, 150, 160, 160, 105, 130, 140, 125,
+        130, 105, 155, 135, 110, 155, 125, 135, 145, 150, 115, 115,
     };
 
     private final Checks checks;

@@ -191,7 +191,8 @@ final class EdgesOfMaps {
         MeanderBench bench = Checks.stillBench(64, 1, 200, 200, 200, 200, 200, 200, 200, 200);
         for (int t : new int[] {0, 1, 8, 50}) {
             int[][] met = {{t, 0}, {-t, 0}, {0, t}, {0, -t}, {t, t}, {-t, -t}, {t, -t}, {-t, t}};
-            int[][] not = {{t + 1, 0}, {-t - 1, 0}, {0, t + 1}, {0, -t - 1}, {t + 1, t}, {t, t + 1}, {-t - 1, -t}, {-t, -t - 1}};
+            int u = t + 1;
+            int[][] not = {{u, 0}, {-u, 0}, {0, u}, {0, -u}, {u, t}, {t, u}, {-u, -t}, {-t, -u}};
             for (int k = 0; k < 8; k++) {
                 bench.marks(t);
                 checks.same("off by " + met[k][0] + ", " + met[k][1], metAt(bench, 200 + met[k][0], 200 + met[k][1]), 1);
@@ -208,6 +209,17 @@ final class EdgesOfMaps {
         checks.same("and another one", metAt(two, 50, 100), 1);
         checks.same("and one that is not met", metAt(two, 51, 100), 0);
         checks.same("and one more that is", metAt(two, 200, 200), 0);
+        behindTheCutsOfAYear();
+    }
+
+    private void behindTheCutsOfAYear() {
+        MeanderBench bench = Checks.stillBench(64, 10, 0, 100, 100, 100, 100, 160, 60, 160, 60, 106, 300, 106);
+        bench.marks(0);
+        checks.same("a point of YEAR 0", metAt(bench, 100, 160), 1);
+        bench.mark(60, 106, 1);
+        checks.same("one that YEAR 1 keeps", bench.met(0, 0), 1);
+        bench.mark(100, 160, 1);
+        checks.same("one that YEAR 1 cuts off", bench.met(0, 0), 0);
     }
 
     private void ofNow() {

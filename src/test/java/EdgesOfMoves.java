@@ -330,7 +330,8 @@ final class EdgesOfMoves {
     private void toThePlainsEdge() {
         MeanderBench bench = new MeanderBench();
         bench.set(50, 4, 0, 0, 64, 1);
-        int[][] fromTo = {{0, 0}, {1, 0}, {7, 0}, {8, 0}, {9, 1}, {511, 511}, {510, 511}, {504, 511}, {503, 511}, {502, 510}};
+        int[][] fromTo = {{0, 0}, {1, 0}, {7, 0}, {8, 0}, {9, 1},
+            {511, 511}, {510, 511}, {504, 511}, {503, 511}, {502, 510}};
         for (int[] ft : fromTo) {
             int inwards = ft[0] < 256 ? 40 : -40;
             int beside = ft[0] + inwards;

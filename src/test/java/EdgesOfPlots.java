@@ -24,6 +24,7 @@ final class EdgesOfPlots {
                 this::behindPartTwo);
         s.holds(TERMS, "(What changes by 3. changes no OWNER.)", this::cutsChangeNoOwner);
         String owner = "Promise 13: owner";
+        s.holds(owner, "Of PLOT k: 0 OWNER, 1 SIDE now", this::firstAndLastPlot);
         s.holds(owner, "2 in how many YEARS its OWNER became another one", this::yearsOfChange);
         s.holds(owner, "(since THE LINE was told, or the PLOT).", this::sinceTold);
         s.holds(owner, "NoSuchElementException: there is none such, or another what.", this::wrongOwners);
@@ -220,6 +221,19 @@ final class EdgesOfPlots {
         owner("cut", bench, 1, 0, 0);
         bench.go(200);
         owner("200 years later", bench, 1, 0, 0);
+    }
+
+    private void firstAndLastPlot() {
+        MeanderBench bench = Checks.stillBench(64, 10, 0, 100, 100, 100, 100, 160, 60, 160, 60, 106, 300, 106);
+        for (int k = 0; k < 20; k++) {
+            bench.plot(80, k < 10 ? 130 : 102);
+        }
+        // Behind the cut 80 130 is above the line and 80 102 below it; the owners are those of before.
+        bench.go(1);
+        for (int k = 0; k < 20; k++) {
+            checks.same("owner(" + k + ", 0)", bench.owner(k, 0), k < 10 ? 1 : 0);
+            checks.same("owner(" + k + ", 1)", bench.owner(k, 1), k < 10 ? 0 : 1);
+        }
     }
 
     private void yearsOfChange() {
